@@ -621,6 +621,7 @@ public final class TwoPass {
             if (Code.fitsImmediate(constant)) {
                 firstWord = Code.instruction(Operation.ADDI, d, 0, 0, constant);
             } else {
+                // Where the low part is 0 the size of the line leaves the second word out.
                 firstWord = Code.instruction(Operation.LUI, d, 0, 0, Code.highPart(constant));
                 secondWord = Code.instruction(Operation.ADDIW, d, d, 0, Code.lowPart(constant));
             }
@@ -818,12 +819,12 @@ public final class TwoPass {
             if (wordIs("sp")) {
                 return 2;
             }
-            int digits = wordEnd - wordStart - 1;
-            if (digits < 1 || digits > 2 || characters[wordStart] != 'x') {
+            if (wordStart >= wordEnd || characters[wordStart] != 'x') {
                 throw new IllegalArgumentException();
             }
             long register = digitsFrom(wordStart + 1, 10, 2);
-            if (register > 31 || (digits == 2 && register < 10)) {
+            boolean zeroInFront = register < 10 && wordEnd - wordStart > 2;
+            if (register > 31 || zeroInFront) {
                 throw new IllegalArgumentException();
             }
             return (int) register;
