@@ -114,14 +114,14 @@ public final class Promise05LinkTest {
         // A name that was near, then far, then near again, as the other module changes.
         Bench c = new Bench().with(0, "beqz x1,a").with(1, ".space 5000", "a:", ".global a");
         c.linked(5008);
-        Bench.due("far()", 1, () -> c.x.far());
-        c.x.clear(1);
+        Bench.due("far()", 1, () -> c.far());
+        c.clear(1);
         c.with(1, "a: nop", ".global a");
         c.linked(8);
-        Bench.due("far()", 0, () -> c.x.far());
+        Bench.due("far()", 0, () -> c.far());
         c.words(0, 0x00008263, 0x13);
         // What stood here is gone: these zeros are not what was linked before.
-        c.x.clear(0);
+        c.clear(0);
         c.with(0, ".space 8");
         c.linked(12);
         c.words(0, 0, 0, 0x13);

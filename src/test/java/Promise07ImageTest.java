@@ -96,9 +96,9 @@ public final class Promise07ImageTest {
             0, 0, 254, 255, 255, 255, 7};
         for (int k = 0; k < want.length; k++) {
             int i = k;
-            Bench.due("image(" + i + ")", want[i], () -> b.x.image(i));
+            Bench.due("image(" + i + ")", want[i], () -> b.image(i));
         }
-        Bench.thrown("image(31)", IndexOutOfBoundsException.class, () -> b.x.image(31));
+        Bench.thrown("image(31)", IndexOutOfBoundsException.class, () -> b.image(31));
 
         Bench end = new Bench().with(0, ".byte 9");
         end.linked(4);
@@ -106,19 +106,19 @@ public final class Promise07ImageTest {
         Bench zeros = new Bench().with(0, ".space 6000", ".byte 5");
         zeros.linked(6004);
         for (int i : new int[] {0, 3, 4, 7, 8, 5999, 6001, 6003}) {
-            Bench.due("image(" + i + ")", 0, () -> zeros.x.image(i));
+            Bench.due("image(" + i + ")", 0, () -> zeros.image(i));
         }
-        Bench.due("image(6000)", 5, () -> zeros.x.image(6000));
+        Bench.due("image(6000)", 5, () -> zeros.image(6000));
     }
 
     private static void bounds() {
         Bench b = new Bench().with(0, "nop");
-        Bench.thrown("image(-1) without an image", IllegalStateException.class, () -> b.x.image(-1));
+        Bench.thrown("image(-1) without an image", IllegalStateException.class, () -> b.image(-1));
         b.linked(4);
         for (int i : new int[] {-1, 4, 16384, Integer.MIN_VALUE, Integer.MAX_VALUE}) {
-            Bench.thrown("image(" + i + ")", IndexOutOfBoundsException.class, () -> b.x.image(i));
+            Bench.thrown("image(" + i + ")", IndexOutOfBoundsException.class, () -> b.image(i));
         }
-        b.x.clear(1);
-        Bench.thrown("image(4) without an image", IllegalStateException.class, () -> b.x.image(4));
+        b.clear(1);
+        Bench.thrown("image(4) without an image", IllegalStateException.class, () -> b.image(4));
     }
 }

@@ -63,7 +63,7 @@ public final class Promise09ShowTest {
 
     private static void shows(int word, String want) {
         Bench b = new Bench();
-        Bench.due("show of '" + want + "'", want.length(), () -> b.x.show(word));
+        Bench.due("show of '" + want + "'", want.length(), () -> b.show(word));
         Bench.same("show(" + Integer.toHexString(word) + ")", want, b.shown(word));
     }
 
@@ -75,9 +75,9 @@ public final class Promise09ShowTest {
             0x7063, 0x17, 0x73, 0x0f, 0x3b, 0x32, 0x31, 0x36, 0x6e, 0x66, 0x12, 0x02, 0x22, 0x62, 0x1a, 1};
         for (int word : none) {
             Bench b = new Bench();
-            b.x.show(0x13);
-            Bench.thrown("show(" + Integer.toHexString(word) + ")", IllegalArgumentException.class, () -> b.x.show(word));
-            Bench.thrown("letter(0) after it", IndexOutOfBoundsException.class, () -> b.x.letter(0));
+            b.show(0x13);
+            Bench.thrown("show(" + Integer.toHexString(word) + ")", IllegalArgumentException.class, () -> b.show(word));
+            Bench.thrown("letter(0) after it", IndexOutOfBoundsException.class, () -> b.letter(0));
         }
     }
 
@@ -85,8 +85,8 @@ public final class Promise09ShowTest {
         Bench b = new Bench().with(0, "nop");
         b.linked(4);
         b.type("no");
-        b.x.show(0x13);
-        Bench.thrown("show(0)", IllegalArgumentException.class, () -> b.x.show(0));
+        b.show(0x13);
+        Bench.thrown("show(0)", IllegalArgumentException.class, () -> b.show(0));
         b.words(0, 0x13);
         Bench.due("the line that is typed", 1, () -> b.add(1, "p"));
     }
@@ -111,7 +111,7 @@ public final class Promise09ShowTest {
             }
             there++;
             b.add(0, text);
-            b.x.link();
+            b.link();
             Bench.same(text, Integer.toHexString(word), Integer.toHexString(b.wordAt(0)));
         }
         Bench.same("many were written out", "true", Boolean.toString(there > 5000));

@@ -3,21 +3,21 @@ public final class Promise11LinesTest {
         Bench b = new Bench();
         for (int k = 0; k < 16; k++) {
             int count = k;
-            Bench.due("lines(1)", count, () -> b.x.lines(1));
+            Bench.due("lines(1)", count, () -> b.lines(1));
             b.add(1, k % 2 == 0 ? "" : "nop");
         }
-        Bench.due("lines(1)", 16, () -> b.x.lines(1));
-        Bench.due("lines(0)", 0, () -> b.x.lines(0));
-        Bench.thrown("a line too many", IllegalStateException.class, () -> b.x.line(1));
-        Bench.due("lines(1) after it", 16, () -> b.x.lines(1));
+        Bench.due("lines(1)", 16, () -> b.lines(1));
+        Bench.due("lines(0)", 0, () -> b.lines(0));
+        Bench.thrown("a line too many", IllegalStateException.class, () -> b.line(1));
+        Bench.due("lines(1) after it", 16, () -> b.lines(1));
         b.linked(32);
-        Bench.due("lines(1) with an image", 16, () -> b.x.lines(1));
-        Bench.due("the image after lines", 0, () -> b.x.far());
+        Bench.due("lines(1) with an image", 16, () -> b.lines(1));
+        Bench.due("the image after lines", 0, () -> b.far());
         for (int module : new int[] {-1, 2, Integer.MIN_VALUE, Integer.MAX_VALUE}) {
-            Bench.thrown("lines(" + module + ")", IllegalArgumentException.class, () -> b.x.lines(module));
+            Bench.thrown("lines(" + module + ")", IllegalArgumentException.class, () -> b.lines(module));
         }
-        b.x.clear(1);
-        Bench.due("lines(1) of a cleared module", 0, () -> b.x.lines(1));
+        b.clear(1);
+        Bench.due("lines(1) of a cleared module", 0, () -> b.lines(1));
         Bench.end();
     }
 }
