@@ -582,6 +582,10 @@ public final class EdgeCallsTest {
         Bench.thrown("place(1, 0) of a cleared one", STATE, () -> full.place(1, 0));
     }
 
+    private static String butTheLetters(String told) {
+        return told.substring(0, told.indexOf(", letters"));
+    }
+
     private static void show() {
         Bench.of("Writes an instruction out, as the operation (none of the short ones from nop on), a blank, and its operands with commas,"
                 + " registers as x and a number, numbers in decimal digits (ways too, where a name would be): how many characters.");
@@ -595,8 +599,7 @@ public final class EdgeCallsTest {
             Bench b = inUse();
             Bench.due("show of " + texts[k], texts[k].length(), () -> b.show(word));
             Bench.same("what was written out", texts[k], b.shown(word));
-            String told = b.told();
-            Bench.same("all but the letters", told.substring(0, told.indexOf(", letters")), inUse().told().split(", letters")[0]);
+            Bench.same("all but the letters", butTheLetters(inUse().told()), butTheLetters(b.told()));
             typedIsThere(b, "show");
         }
     }
@@ -610,7 +613,7 @@ public final class EdgeCallsTest {
             Bench.thrown("show(" + Integer.toHexString(word) + ")", ARGUMENT, () -> b.show(word));
             Bench.thrown("letter(0) after it", INDEX, () -> b.letter(0));
             Bench.thrown("letter(-1) after it", INDEX, () -> b.letter(-1));
-            Bench.same("all but the letters", before.substring(0, before.indexOf(", letters")), b.told().split(", letters")[0]);
+            Bench.same("all but the letters", butTheLetters(before), butTheLetters(b.told()));
             Bench.same("the next one", "addi x0,x0,0", b.shown(0x13));
             typedIsThere(b, "show");
         }

@@ -1,3 +1,7 @@
+import java.util.ArrayList;
+import java.util.List;
+import java.util.TreeSet;
+
 /** The edges that the document names under "Terms" for modules, lines, names, registers and numbers. */
 public final class EdgeLineFormTest {
     private static final int MOST_CALLS = 512;
@@ -7,6 +11,7 @@ public final class EdgeLineFormTest {
         modules();
         linesOfAModule();
         charactersOfALine();
+        linesThatEndTooEarly();
         characters();
         asManyBlanksAsOneLikes();
         aBlankBetweenWords();
@@ -15,6 +20,7 @@ public final class EdgeLineFormTest {
         remarks();
         lengthOfNames();
         lettersOfNames();
+        namesThatAreNotTheSame();
         labels();
         whatALabelStandsFor();
         registers();
@@ -112,6 +118,19 @@ public final class EdgeLineFormTest {
         whole.words(0, 0x800f0f93, 0x80000fb7);
     }
 
+    /** Nothing stands behind the last of 28 characters, so a line that ends too early there is just wrong. */
+    private static void linesThatEndTooEarly() {
+        Bench.of("LINES of at most 28 characters");
+        for (String text : new String[] {"a", "add", "add x1", "add x1,", "add x1,x2", "add x1,x2,", "add x1,x2,x", "addi x1,x2,", "addi x1,x2,-",
+            "addi x1,x2,0x", "slli x1,x2,", "lui x1,", "lb x1,", "lb x1,4", "lb x1,4(", "lb x1,4(x", "lb x1,4(x2", "sb x1,4(x2", "beq x1,x2,",
+            "jal x1,", "jalr x1,0(", "mv x1,", "j", "call", "beqz x1,", "li x1,", "li x1,-", "li x1,0x", "la x1,", ".word", ".word -", ".word 0x",
+            ".byte", ".space", ".global", "a: b", "a: x", ":", ",", "(", ")", "-", ".", "x"}) {
+            Bench.wrongLines(" ".repeat(28 - text.length()) + text, text + " ".repeat(28 - text.length()));
+        }
+        Bench.rightLines(" ".repeat(26) + "a:", " ".repeat(27) + "#", " ".repeat(25) + "nop", " ".repeat(20) + "mv x1,x2", " ".repeat(21) + "li x1,0",
+                " ".repeat(17) + "lb x1,4(x2)", " ".repeat(25) + "j a", " ".repeat(19) + ".global a", " ".repeat(19) + ".word 0x1");
+    }
+
     private static void characters() {
         Bench.of("characters (32 .. 126)");
         for (int c = 0; c < 256; c++) {
@@ -202,25 +221,47 @@ public final class EdgeLineFormTest {
                 Bench.wrongLines(texts);
             }
         }
-        // Names are the same when all their letters are, and only then.
-        String[] alike = {"a", "aa", "aaa", "aaaa", "aaaaa", "aaaaaa", "aaaaab", "baaaaa", "ab", "ba", "z", "zz", "zzzzzz", "zzzzzy", "yzzzzz"};
-        Bench b = new Bench();
-        for (String name : alike) {
-            b.with(0, name + ":");
+    }
+
+    /** Names are the same when all their letters are, and only then. */
+    private static void namesThatAreNotTheSame() {
+        Bench.of("A label is a name that no other label of the module has");
+        List<String> names = new ArrayList<>();
+        for (char first = 'a'; first <= 'z'; first++) {
+            names.add("" + first);
+            for (char second = 'a'; second <= 'z'; second++) {
+                names.add("" + first + second);
+            }
         }
-        for (String name : alike) {
-            Bench.thrown("'" + name + ":' again", IllegalStateException.class, () -> b.add(0, name + ":"));
-        }
-        for (String name : alike) {
-            for (String other : alike) {
-                Bench c = new Bench().with(0, "j " + name).with(0, other + ":");
-                if (name.equals(other)) {
-                    c.linked(4);
-                } else {
-                    c.linkThrows(java.util.NoSuchElementException.class);
+        notTheSame(names);
+        names.clear();
+        for (int letters = 3; letters <= 6; letters++) {
+            for (int at = 0; at < letters; at++) {
+                for (char c = 'a'; c <= 'z'; c++) {
+                    names.add("a".repeat(at) + c + "a".repeat(letters - 1 - at));
+                    names.add("z".repeat(at) + c + "z".repeat(letters - 1 - at));
                 }
             }
         }
+        notTheSame(new ArrayList<>(new TreeSet<>(names)));
+    }
+
+    private static void notTheSame(List<String> names) {
+        for (int k = 0; k < names.size(); k++) {
+            String name = names.get(k);
+            Bench.thrown("'" + name + ":' again", IllegalStateException.class, () -> new Bench().with(0, name + ":").add(0, name + ":"));
+            new Bench().with(0, "j " + name, name + ":").linked(4);
+            for (int from = 0; from < k; from += 15) {
+                Bench b = new Bench();
+                for (String other : names.subList(from, Math.min(from + 15, k))) {
+                    b.add(0, other + ":");
+                }
+                Bench.due("lines before '" + name + ":'", Math.min(15, k - from), () -> b.lines(0));
+                b.with(0, name + ":");
+            }
+        }
+        Bench jump = new Bench().with(0, "j " + names.get(0), names.get(1) + ":");
+        jump.linkThrows(java.util.NoSuchElementException.class);
     }
 
     private static void labels() {

@@ -17,6 +17,7 @@ public final class EdgeLinkingTest {
         again();
         asManyRoundsAsBranches();
         mostBytes();
+        refusals();
         allLinesFirst();
         moduleZeroFirst();
         firstOneSaysWhich();
@@ -274,6 +275,18 @@ public final class EdgeLinkingTest {
         Bench d = new Bench().with(1, "beqz x1,a", "beqz x1,a", "beqz x1,a", ".space 4092", "a:");
         d.linked(4116);
         d.fars(3);
+        // Each link begins with none, whatever the one before it made far.
+        for (int module = 0; module < 2; module++) {
+            Bench e = new Bench().with(module, "beqz x1,a", "b: .global b")
+                    .with(1 - module, ".space 5000", "a: .space 5000", "beqz x1,b", ".global a");
+            e.link();
+            e.fars(module == 0 ? 2 : 1);
+            e.clear(1 - module);
+            e.with(1 - module, "a: .global a");
+            e.linked(4);
+            e.fars(0);
+            Bench.same("the branch, near again", "beq x1,x0," + (module == 0 ? 4 : 0), e.shown(e.wordAt(0)));
+        }
     }
 
     private static void again() {
@@ -365,6 +378,33 @@ public final class EdgeLinkingTest {
         most.linkThrows(UnsupportedOperationException.class);
     }
 
+    private static void refusals() {
+        Bench.of("NoSuchElementException: a name is unknown; IllegalStateException: something is wrong;"
+                + " UnsupportedOperationException: it is too long.");
+        new Bench().with(0, "j a").linkThrows(NoSuchElementException.class);
+        new Bench().with(0, ".global a").linkThrows(IllegalStateException.class);
+        new Bench().with(0, "j a", ".byte 0", "a:").linkThrows(IllegalStateException.class);
+        zeros(new Bench(), 0, 16385).linkThrows(UnsupportedOperationException.class);
+        zeros(new Bench(), 0, 16384).linked(16384);
+        // Refused, mended and right.
+        Bench b = new Bench().with(0, "j a");
+        b.linkThrows(NoSuchElementException.class);
+        b.with(1, "a: nop");
+        b.linkThrows(NoSuchElementException.class);
+        b.with(1, ".global a", ".global b");
+        b.linkThrows(IllegalStateException.class);
+        b.with(1, ".byte 0", "b: j b");
+        b.linked(16);
+        b.with(1, ".byte 0", "c: .byte 0", "j c");
+        b.linkThrows(IllegalStateException.class);
+        b.with(0, ".space 6000", ".space 6000", ".space 6000");
+        b.linkThrows(UnsupportedOperationException.class);
+        b.clear(0);
+        b.linkThrows(IllegalStateException.class);
+        b.clear(1);
+        b.linked(0);
+    }
+
     private static void allLinesFirst() {
         Bench.of("(First all lines are looked at");
         String[] tooLong = {".space 6000", ".space 6000", ".space 6000"};
@@ -412,6 +452,14 @@ public final class EdgeLinkingTest {
         both.linkThrows(UnsupportedOperationException.class);
         new Bench().with(0, "j a", ".byte 0", "a:").with(1, ".space 6000", ".space 6000", ".space 6000")
                 .linkThrows(UnsupportedOperationException.class);
+        // The first odd ways that do not reach make the branch far, and the image too long by that; the last that
+        // reach do not.
+        zeros(new Bench().with(1, "beqz x1,a", ".space 4089", "a:"), 1, 12291).linkThrows(IllegalStateException.class);
+        zeros(new Bench().with(1, "beqz x1,a", ".space 4091", "a:"), 1, 12285).linkThrows(IllegalStateException.class);
+        zeros(new Bench().with(1, "beqz x1,a", ".space 4091", "a:"), 1, 12286).linkThrows(UnsupportedOperationException.class);
+        zeros(new Bench().with(1, ".byte 0", "a: .space 4095", "beqz x1,a"), 1, 12284).linkThrows(IllegalStateException.class);
+        zeros(new Bench().with(1, ".space 3", "a: .space 4097", "beqz x1,a"), 1, 12276).linkThrows(IllegalStateException.class);
+        zeros(new Bench().with(1, ".space 3", "a: .space 4097", "beqz x1,a"), 1, 12277).linkThrows(UnsupportedOperationException.class);
     }
 
     private static void thenOddWays() {

@@ -6,7 +6,8 @@ public final class EdgeOperationsTest {
         shifts();
         lui();
         loads();
-        storesAndJalr();
+        stores();
+        jalr();
         namesAsOperands();
         shortOnes();
         rangeOfLi();
@@ -80,11 +81,17 @@ public final class EdgeOperationsTest {
     }
 
     /** No range is said for these; it is that of the loads, the most that twelve bits hold. */
-    private static void storesAndJalr() {
+    private static void stores() {
         Bench.of("sb sw sd t,i(s).");
-        for (String op : new String[] {"sb", "sw", "sd", "jalr"}) {
+        for (String op : new String[] {"sb", "sw", "sd"}) {
             withBrackets(op);
         }
+    }
+
+    /** Nor is one said here. */
+    private static void jalr() {
+        Bench.of("jalr d,i(s).");
+        withBrackets("jalr");
     }
 
     private static void withBrackets(String op) {
